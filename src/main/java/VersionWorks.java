@@ -1406,9 +1406,9 @@ public final class VersionWorks {
         for (int one = 0; one < 2 * REFS; one++) {
             for (int other = 0; other < one; other++) {
                 int commit = here.state.branchOrTrack(one);
-                int second = here.state.branchOrTrack(other);
-                if (commit != NONE && second != NONE) {
-                    here.store.findBases(commit, second, set);
+                int otherCommit = here.state.branchOrTrack(other);
+                if (commit != NONE && otherCommit != NONE) {
+                    here.store.findBases(commit, otherCommit, set);
                     if (!here.store.areApart(set)) {
                         return false;
                     }
@@ -1473,7 +1473,9 @@ public final class VersionWorks {
         private final int[] lines = new int[PATHS * MOST_LINES];
 
         private Snap() {
-            Arrays.fill(lengths, NONE);
+            for (int path = 0; path < PATHS; path++) {
+                lengths[path] = NONE;
+            }
         }
 
         private void empty() {
@@ -1979,8 +1981,12 @@ public final class VersionWorks {
         private final int[] stages = new int[PATHS * STAGES];
 
         private Desk() {
-            Arrays.fill(entries, NONE);
-            Arrays.fill(stages, NONE);
+            for (int path = 0; path < PATHS; path++) {
+                entries[path] = NONE;
+            }
+            for (int place = 0; place < PATHS * STAGES; place++) {
+                stages[place] = NONE;
+            }
         }
 
         private void copyFrom(Desk other) {
@@ -2077,9 +2083,11 @@ public final class VersionWorks {
         private int stashCount;
 
         private State() {
-            Arrays.fill(branches, NONE);
-            Arrays.fill(tags, NONE);
-            Arrays.fill(tracks, NONE);
+            for (int number = 0; number < REFS; number++) {
+                branches[number] = NONE;
+                tags[number] = NONE;
+                tracks[number] = NONE;
+            }
         }
 
         private void copyFrom(State other) {
@@ -2440,13 +2448,10 @@ public final class VersionWorks {
                 return;
             }
             for (int path = 0; path < PATHS; path++) {
-                for (int lost = 0; lost < PATHS; lost++) {
-                    int fresh = store.blobOf(to, path);
-                    int gone = store.blobOf(from, lost);
-                    boolean can = fresh != NONE && gone != NONE;
-                    if (can && store.blobOf(from, path) == NONE && store.blobOf(to, lost) == NONE) {
-                        likes[path * PATHS + lost] = diff.likenessOf(store, gone, fresh);
-                    }
+                int fresh = store.blobOf(from, path) == NONE ? store.blobOf(to, path) : NONE;
+                for (int lost = 0; lost < PATHS && fresh != NONE; lost++) {
+                    int gone = store.blobOf(to, lost) == NONE ? store.blobOf(from, lost) : NONE;
+                    likes[path * PATHS + lost] = gone == NONE ? NONE : diff.likenessOf(store, gone, fresh);
                 }
             }
             for (int round = 0; round < PATHS; round++) {
@@ -3486,7 +3491,7 @@ public final class VersionWorks {
             return turns;
         }
 
-        /** Commits that were told in earlier rounds can be answered again: that makes nothing else common. */
+        /** From the first one told in the round on, there are told ones of that round alone. */
         private void answerFrom(Store receiver, int from, int count) {
             for (int place = from; place < count; place++) {
                 int commit = order[place];
