@@ -13,6 +13,8 @@ final class Promises19to26 {
         promise23rebase();
         promise23stops();
         promise23root();
+        promise23undone();
+        renamesUsedUp();
         promises25to26();
         Due.end("Promises19to26");
     }
@@ -591,6 +593,76 @@ final class Promises19to26 {
         Due.is("23 three steps", 4, () -> x.generation(0, x.head(0)));
         Due.is("23 of one snapshot", 1 << 12, () -> x.changed(0, last, x.head(0)));
         Due.yes("23 the merge stays", x.kind(0, merged) == 2);
+    }
+
+    /** What throws changes nothing at all, however far its work had come: two steps of a rebase are done and undone. */
+    private static void promise23undone() {
+        VersionWorks x = new VersionWorks();
+        int root = commit(x, 0, 123, 1);
+        x.branch(0, 1, root);
+        x.write(0, 0, 193);
+        x.add(0, 0);
+        x.commit(0, 7, 77);
+        x.write(0, 4, 4);
+        x.add(0, 4);
+        int b = x.commit(0, 8, 88);
+        x.write(0, 8, 8);
+        x.add(0, 8);
+        int c = x.commit(0, 9, 99);
+        x.switchTo(0, 1);
+        int up = commit(x, 0, 183, 5);
+        x.switchTo(0, 0);
+        Due.is("23 stops", 3, () -> x.rebase(0, up, up, 0));
+        x.write(0, 0, 1983);
+        x.add(0, 0);
+        x.write(0, 8, 1);
+        int objects = x.objects(0);
+        int entries = x.reflog(0);
+        Due.state("23 in the way of the last step", () -> x.proceed(0));
+        Due.is("23 no object came", objects, () -> x.objects(0));
+        Due.is("23 no entry came", entries, () -> x.reflog(0));
+        Due.is("23 HEAD as before", up, () -> x.head(0));
+        Due.is("25 to do as before", b, () -> x.todoAt(0, 0));
+        Due.is("25 to do as before", c, () -> x.todoAt(0, 1));
+        Due.is("24 stopped as before", 77, () -> x.message(0, x.operationCommit(0)));
+        Due.is("9 the index as before", 2, () -> x.staged(0, 0));
+        Due.is("23 the files as before", NONE, () -> x.fileLines(0, 4));
+        // What got the numbers of commits that were undone are blobs now, and no commits to be told.
+        x.write(0, 8, 5);
+        x.add(0, 8);
+        x.unstage(0, 8);
+        for (int k = 0; k < 9; k++) {
+            x.write(0, 8, 51 + k);
+            x.add(0, 8);
+            x.unstage(0, 8);
+        }
+        x.removeFile(0, 8);
+        x.write(1, 0, 5);
+        x.add(1, 0);
+        x.commit(1, 1, 1);
+        x.fetch(0, 240);
+        Due.is("28 told are the five commits", 5, () -> x.told());
+        Due.is("23 proceed", 2, () -> x.proceed(0));
+        int first = x.parent(0, x.parent(0, x.head(0), 0), 0);
+        Due.is("23 the author of the first step", 7, () -> x.author(0, first));
+        Due.is("23 its message", 77, () -> x.message(0, first));
+        Due.is("23 its parent", up, () -> x.parent(0, first, 0));
+        Due.is("23 the author of the last", 9, () -> x.author(0, x.head(0)));
+        Due.yes("isSound", x.isSound(0, 0));
+    }
+
+    /** A path is in one rename alone, as the new one and as the lost one. */
+    private static void renamesUsedUp() {
+        VersionWorks x = new VersionWorks();
+        x.write(0, 0, 12345);
+        int from = commit(x, 1, 123456, 1);
+        x.removeFile(0, 0);
+        x.moveFile(0, 1, 6);
+        x.addAll(0);
+        int to = x.commit(0, 1, 2);
+        Due.is("20 the more alike", 1, () -> x.renamedFrom(0, from, to, 6, 1));
+        Due.is("20 the other way the new path 1", 6, () -> x.renamedFrom(0, to, from, 1, 1));
+        Due.is("20 the lost path is used up", NONE, () -> x.renamedFrom(0, to, from, 0, 1));
     }
 
     private static void promises25to26() {

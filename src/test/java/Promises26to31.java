@@ -11,6 +11,8 @@ final class Promises26to31 {
         pushDeletes();
         noRoom();
         promise29();
+        reachedByRefs();
+        wouldSendAfterFetch();
         promise30dangling();
         packs();
         Due.end("Promises26to31");
@@ -313,6 +315,47 @@ final class Promises26to31 {
         x.stashPush(0, 1, 1);
         x.expireReflog(0, 0);
         Due.is("29 a stash reaches: blob, tree, root, two commits", 9, () -> x.reached(0));
+    }
+
+    /** Commits that nothing reaches but the newest entry of the reflog, or a track. */
+    private static void reachedByRefs() {
+        VersionWorks x = new VersionWorks();
+        int one = commit(x, 0, 0, 1, 1);
+        x.startBranch(0, 1);
+        x.deleteBranch(0, 0, true);
+        x.removeFile(0, 0);
+        x.add(0, 0);
+        Due.is("29 the newest entry reaches", 4, () -> x.reached(0));
+        x.branch(0, 0, one);
+        x.fetch(1, 240);
+        Due.is("29 a track reaches", 4, () -> x.reached(1));
+        x.branch(1, 3, x.trackAt(1, 0));
+        x.deleteBranch(0, 0, true);
+        x.pruneTracks(1);
+        Due.is("29 a branch reaches", 4, () -> x.reached(1));
+        x.annotate(1, 2, x.branchAt(1, 3), 1);
+        x.deleteBranch(1, 3, true);
+        Due.is("29 a tag reaches its object, too", 5, () -> x.reached(1));
+        x.deleteTag(1, 2);
+        Due.is("29 nothing reaches", 0, () -> x.reached(1));
+        Due.is("29 five are collected", 5, () -> x.collect(1, 0));
+    }
+
+    /** What was common in an earlier transfer, the other way, is nothing to wouldSend(). */
+    private static void wouldSendAfterFetch() {
+        VersionWorks x = new VersionWorks();
+        int one = commit(x, 0, 0, 1, 1);
+        x.fetch(1, 240);
+        x.write(1, 8, 9);
+        x.add(1, 8);
+        commit(x, 0, 0, 2, 2);
+        x.fetch(1, 240);
+        int three = commit(x, 0, 4, 9, 3);
+        // The blob 9 is there, but no commit there reaches it: blob, tree, root and commit would be sent.
+        Due.is("27 wouldSend", 4, () -> x.wouldSend(0, three));
+        x.fetch(0, 240);
+        Due.is("27 wouldSend, again", 4, () -> x.wouldSend(0, three));
+        Due.is("27 what is there", 0, () -> x.wouldSend(0, one));
     }
 
     private static void promise30dangling() {
