@@ -1570,6 +1570,7 @@ public final class VersionWorks {
         private final int[] messages = new int[SLOTS];
         private final int[] lengths = new int[SLOTS];
         private final int[] lines = new int[MOST_LINES * SLOTS];
+        private final int[] marks = new int[SLOTS];
         /** For each object the set of what it reaches: all sets stay right, as an object never changes. */
         private final long[] reach = new long[WORDS * SLOTS];
         private final long[] commits = new long[WORDS];
@@ -1666,20 +1667,32 @@ public final class VersionWorks {
             return true;
         }
 
-        /** The first object ahead of a slot that holds the same as what is in the slot. */
+        /**
+         * The first object ahead of a slot that holds the same as what is in the slot. What holds the same has the
+         * same mark, by which nearly all others are passed over at once.
+         */
         private int find(int slot) {
+            int mark = (messages[slot] * 31 + dates[slot]) * 31 + authors[slot];
+            for (int place = 0; place < PARTS; place++) {
+                mark = mark * 31 + parts[slot * PARTS + place];
+            }
+            for (int place = 0; place < lengths[slot]; place++) {
+                mark = mark * 31 + lines[slot * MOST_LINES + place];
+            }
+            marks[slot] = mark;
             for (int number = 0; number < slot; number++) {
-                boolean same = kinds[number] == kinds[slot] && lengths[number] == lengths[slot]
-                        && messages[number] == messages[slot] && dates[number] == dates[slot]
-                        && authors[number] == authors[slot];
-                for (int place = 0; same && place < PARTS; place++) {
-                    same = parts[number * PARTS + place] == parts[slot * PARTS + place];
-                }
-                for (int place = 0; same && place < lengths[slot]; place++) {
-                    same = lines[number * MOST_LINES + place] == lines[slot * MOST_LINES + place];
-                }
-                if (same) {
-                    return number;
+                if (marks[number] == mark && kinds[number] == kinds[slot]) {
+                    boolean same = lengths[number] == lengths[slot] && messages[number] == messages[slot]
+                            && dates[number] == dates[slot] && authors[number] == authors[slot];
+                    for (int place = 0; same && place < PARTS; place++) {
+                        same = parts[number * PARTS + place] == parts[slot * PARTS + place];
+                    }
+                    for (int place = 0; same && place < lengths[slot]; place++) {
+                        same = lines[number * MOST_LINES + place] == lines[slot * MOST_LINES + place];
+                    }
+                    if (same) {
+                        return number;
+                    }
                 }
             }
             return NONE;
@@ -2583,7 +2596,7 @@ public final class VersionWorks {
         private final int[] row = new int[ROOM];
         private int rowLength;
         private int clashes;
-        /** The bounds of a stretch: from and to in the row of the base, then in that of ours, then in that of theirs. */
+        /** The bounds of a stretch: from and to in the row of the base, then of ours, then of theirs. */
         private final int[] stretch = new int[6];
         /** The base, and further down those with which bases are merged to be one. */
         private final Snap base = new Snap();

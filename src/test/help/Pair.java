@@ -62,8 +62,8 @@ final class Pair {
             broken = true;
             System.out.println(name + ", the last calls ahead:");
             for (String c : calls.subList(Math.max(0, calls.size() - 400), calls.size())) {
-                if (c.matches("(write|insert|delete|remove|move|ignore|clean\\[|add|unst|rest|commit|amend|tick|branch|rename|start|switch|detach|reset|tag|annot|merge\\[|cherry|revert|rebase|proceed|skip|abort|take|mergeFile|fetch|push|prune|collect|expire|pack\\[|bisect|stashP|stashAp|stashD|rehearse).*")
-                        && !c.matches("(branchAt|tagAt|tagged|restored).*")) {
+                if (java.util.Arrays.stream(ACTING).anyMatch(row -> c.startsWith(row.split(" ")[0] + "["))
+                        || c.startsWith("rehearse[")) {
                     System.out.println("    " + c);
                 }
             }
@@ -202,7 +202,7 @@ final class Pair {
             case 'z': return 2;
             case '0': return 0;
             case 'i': return random.nextInt(2);
-            case 'n': return random.nextInt(5) == 0 ? random.nextInt(7) - 0 : random.nextInt(4);
+            case 'n': return random.nextInt(5) == 0 ? random.nextInt(7) : random.nextInt(4);
             case 'l': return 1 + random.nextInt(random.nextInt(3) == 0 ? 99 : 4);
             case 'a': return random.nextInt(3);
             case 'm': return random.nextInt(4);

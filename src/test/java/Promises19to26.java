@@ -15,6 +15,7 @@ final class Promises19to26 {
         promise23root();
         promise23undone();
         renamesUsedUp();
+        rebaseThrows();
         promises25to26();
         Due.end("Promises19to26");
     }
@@ -286,6 +287,7 @@ final class Promises19to26 {
         Due.state("24 no conflict there", () -> x.takeStage(0, 3, 0));
         Due.is("24 mergeFile with nothing in ours", 0, () -> x.mergeFile(0, 1, 0));
         Due.is("24 the lines of the other one", 9, () -> x.fileLine(0, 1, 1));
+        Due.is("25 another merge is asked between", 3, () -> x.mergedLines(0, root, root, 0));
         Due.is("24 mergeFile, favour ours: one stretch clashes", 1, () -> x.mergeFile(0, 0, 1));
         Due.is("24 ours", 9, () -> x.fileLine(0, 0, 1));
         Due.is("24 mergeFile, favour theirs", 1, () -> x.mergeFile(0, 0, 2));
@@ -663,6 +665,58 @@ final class Promises19to26 {
         Due.is("20 the more alike", 1, () -> x.renamedFrom(0, from, to, 6, 1));
         Due.is("20 the other way the new path 1", 6, () -> x.renamedFrom(0, to, from, 1, 1));
         Due.is("20 the lost path is used up", NONE, () -> x.renamedFrom(0, to, from, 0, 1));
+        // As alike as each other: of two lost paths the lower one, of two new paths the lower one.
+        VersionWorks y = new VersionWorks();
+        y.write(0, 3, 777);
+        int two = commit(y, 2, 777, 1);
+        y.removeFile(0, 3);
+        y.moveFile(0, 2, 12);
+        y.addAll(0);
+        int one = y.commit(0, 1, 2);
+        Due.is("20 the lower lost path", 2, () -> y.renamedFrom(0, two, one, 12, 50));
+        Due.is("20 the lower new path", 12, () -> y.renamedFrom(0, one, two, 2, 50));
+        Due.is("20 none for the higher", NONE, () -> y.renamedFrom(0, one, two, 3, 50));
+    }
+
+    /** A rebase that throws in its second step, as it begins. */
+    private static void rebaseThrows() {
+        VersionWorks x = new VersionWorks();
+        int blob = blob(x, 99);
+        x.unstage(0, 15);
+        x.removeFile(0, 15);
+        int root = commit(x, 0, 1, 1);
+        x.branch(0, 1, root);
+        commit(x, 4, 4, 2);
+        int mine = commit(x, 8, 8, 3);
+        x.reset(0, mine, 2);
+        x.tick(0, 9);
+        x.switchTo(0, 1);
+        Due.is("29 what HEAD is not at is not reached", 0, () -> x.isReached(0, blob) ? 1 : 0);
+        int up = commit(x, 12, 2, 4);
+        x.deleteBranch(0, 0, true);
+        x.startBranch(0, 5);
+        x.branch(0, 2, mine);
+        x.reset(0, mine, 2);
+        // A step of the rebase takes path 8 away and brings it back: the file that is not tracked is in its way.
+        x.removeFile(0, 8);
+        x.addAll(0);
+        int without = x.commit(0, 1, 5);
+        x.write(0, 8, 7);
+        int entries = x.reflog(0);
+        int objects = x.objects(0);
+        Due.state("23 in the way of the second step", () -> x.rebase(0, up, up, 0));
+        Due.is("23 HEAD", without, () -> x.head(0));
+        Due.is("23 its branch", 5, () -> x.headBranch(0));
+        Due.is("23 the branch", without, () -> x.branchAt(0, 5));
+        Due.is("23 no entry", entries, () -> x.reflog(0));
+        Due.is("23 no object", objects, () -> x.objects(0));
+        Due.is("23 the file", 7, () -> x.fileLine(0, 8, 0));
+        Due.is("23 no file of the first step is gone", 1, () -> x.fileLines(0, 4));
+        Due.is("23 no file of onto", NONE, () -> x.fileLines(0, 12));
+        Due.is("23 no operation", 0, () -> x.operation(0));
+        Due.is("23 the index", NONE, () -> x.indexed(0, 8));
+        x.removeFile(0, 8);
+        Due.is("23 rebase", 2, () -> x.rebase(0, up, up, 0));
     }
 
     private static void promises25to26() {

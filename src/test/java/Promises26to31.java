@@ -10,6 +10,7 @@ final class Promises26to31 {
         pushesToHead();
         pushDeletes();
         noRoom();
+        noRoomThere();
         promise29();
         reachedByRefs();
         wouldSendAfterFetch();
@@ -268,6 +269,29 @@ final class Promises26to31 {
         Due.is("7 what is present needs none", 0, () -> x.add(0, 4));
         Due.is("8 the file at 4, not at 8", 1, () -> x.removeFile(0, 8) - 2);
         Due.yes("isSound", x.isSound(0, 0));
+    }
+
+    /** Two numbers are left over there: of four objects two would come, so none does. */
+    private static void noRoomThere() {
+        VersionWorks x = new VersionWorks();
+        for (int i = 0; i < 238; i++) {
+            x.write(1, 0, 1);
+            x.insertLine(1, 0, 0, 1 + i % 99);
+            x.insertLine(1, 0, 0, 1 + i / 99);
+            x.add(1, 0);
+        }
+        x.unstage(1, 0);
+        x.removeFile(1, 0);
+        Due.is("two numbers are left", 238, () -> x.objects(1));
+        commit(x, 0, 0, 777, 1);
+        Due.state("27 no room", () -> x.push(0, 0, 0, 0, 240));
+        Due.is("27 nothing came", 238, () -> x.objects(1));
+        Due.is("27 no branch", NONE, () -> x.branchAt(1, 0));
+        told(x, "of what was refused", 0, 0, 0, 0);
+        Due.is("27 within the limit", NONE, () -> x.push(0, 0, 0, 0, 2));
+        Due.is("27 two came", 240, () -> x.objects(1));
+        told(x, "within the limit", 0, 0, 2, 0);
+        Due.state("27 no room for the third", () -> x.push(0, 0, 0, 0, 3));
     }
 
     private static void promise29() {
