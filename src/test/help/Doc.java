@@ -79,6 +79,19 @@ final class Doc {
         return section(name).contains(flat(words));
     }
 
+    /** The numbers that the document names where it tells of an argument of a method: of "1 to 99" 1 and 99. */
+    static List<Integer> numbersOf(String method, String argument) {
+        List<Integer> out = new ArrayList<>();
+        Matcher line = Pattern.compile("- `" + argument + "`: (.*?)(?= - `| Returns | Throws |$)").matcher(section(method));
+        if (line.find()) {
+            Matcher number = Pattern.compile("\\d+").matcher(line.group(1));
+            while (number.find()) {
+                out.add(Integer.parseInt(number.group()));
+            }
+        }
+        return out;
+    }
+
     /** The clause of a method by which it throws an exception; without it the empty text. */
     static String clause(String method, String exception) {
         Matcher m = Pattern.compile("Throws `" + exception + "` (.*?)(?= Throws `|$)").matcher(section(method));

@@ -22,14 +22,12 @@ final class Edge {
 
     /** For each clause (method and exception) what of its words was quoted by a test. */
     private static final Map<String, Set<String>> QUOTED = new HashMap<>();
-    private static int sentences = 0;
 
     private Edge() {
     }
 
     /** A sentence of a part or of a method, of which the calls behind are the test. */
     static void says(String where, String words) {
-        sentences++;
         Due.yes("the document says, " + where + ": " + words, Doc.says(where, words));
         QUOTED.computeIfAbsent(where, key -> new HashSet<>()).add(words);
     }
@@ -76,7 +74,6 @@ final class Edge {
     }
 
     private static void clause(String method, String exception, String words) {
-        sentences++;
         Due.yes(method + " throws " + exception + ": " + words, Doc.clause(method, exception).contains(words));
         QUOTED.computeIfAbsent(method + " " + exception, key -> new HashSet<>()).add(words);
     }
@@ -112,7 +109,7 @@ final class Edge {
 
     /**
      * The room that an act needs: with just as many numbers left as it takes it comes to the same, with one fewer it
-     * is refused; an act that takes none comes through without any.
+     * is refused, and no stamp is another, though the clock went on.
      */
     static void room(String method, int repo, Scene scene, Act act) {
         room(method, repo, repo, scene, act);
@@ -133,6 +130,7 @@ final class Edge {
         state(method, "no room", () -> {
             VersionWorks x = scene.make();
             Scenes.fill(x, taker, takes - 1);
+            x.tick(taker, 1);
             return x;
         }, act);
     }
@@ -151,6 +149,10 @@ final class Edge {
     }
 
     static void end(String name) {
+        int sentences = 0;
+        for (Set<String> words : QUOTED.values()) {
+            sentences += words.size();
+        }
         System.out.println(name + ": " + sentences + " sentences");
         Due.end(name);
     }

@@ -91,6 +91,11 @@ final class EdgesOfAnswers {
         Edge.state("insertLine", "there is no file at the path", ends, x -> x.insertLine(0, 1, 0, 9));
         Edge.index("insertLine", "place is not as told", ends, x -> x.insertLine(0, 1, 1, 9));
         Edge.says("insertLine", "the lines from that place on move on by one");
+        Due.is("the other repository, which has another row there", 1, () -> {
+            VersionWorks y = ends.make();
+            y.write(0, 0, 8);
+            return y.deleteLine(1, 0, 0);
+        });
         VersionWorks x = ends.make();
         x.insertLine(0, 0, 1, 99);
         Due.same("they moved", "1 99 2 3 4 5 9", lines(x, 0));
@@ -99,6 +104,15 @@ final class EdgesOfAnswers {
         Due.same("they moved up", "99 2 3 4 5 9", lines(x, 0));
         x.deleteLine(0, 0, 5);
         Due.same("the last one", "99 2 3 4 5", lines(x, 0));
+        VersionWorks z = ends.make();
+        Due.is("of the last path", 3, () -> z.deleteLine(0, 15, 2));
+        Due.same("of the last path", "1 2 4 5 9", lines(z, 15));
+        z.insertLine(0, 15, 4, 88);
+        Due.same("of the last path", "1 2 4 5 88 9", lines(z, 15));
+        Due.same("the first path stays", "1 2 3 4 5 9", lines(z, 0));
+        z.removeFile(0, 0);
+        z.moveFile(0, 15, 0);
+        Due.same("moved whole", "1 2 4 5 88 9", lines(z, 0));
         Edge.says("deleteLine", "where there is no file there is none");
         Edge.index("deleteLine", "where there is no file there is none", ends, y -> y.deleteLine(0, 1, 0));
         Edge.Scene none = () -> {
@@ -277,6 +291,40 @@ final class EdgesOfAnswers {
         Due.is("there was one", TOP, () -> ends.make().detach(0, ROOT));
         Edge.is("reset", "NONE if there was none", NONE, Scenes::unborn, x -> x.reset(0, TOP, 2));
         Due.is("there was one", TOP, () -> ends.make().reset(0, ROOT, 2));
+        Edge.is("renameBranch", "HEAD, if it is on the branch, goes with it", 1, ends,
+                x -> x.renameBranch(0, 2, 1) == TOP ? x.headBranch(0) : 9);
+        Due.is("else it stays", 2, () -> {
+            VersionWorks x = ends.make();
+            x.renameBranch(0, 5, 1);
+            return x.headBranch(0);
+        });
+        for (int from : new int[] {2, 5}) {
+            VersionWorks x = ends.make();
+            Due.is("the commit at which it is", TOP, () -> x.renameBranch(0, from, 4));
+            Due.is("there", TOP, () -> x.branchAt(0, 4));
+            Due.is("not there any more", NONE, () -> x.branchAt(0, from));
+            Due.is("the head commit stays", TOP, () -> x.head(0));
+        }
+        Edge.is("startBranch", "it is unborn until HEAD is moved", NONE, () -> {
+            VersionWorks x = Scenes.ends();
+            x.detach(0, TOP);
+            return x;
+        }, x -> x.startBranch(0, 4) == TOP ? x.head(0) : 9);
+        Due.is("till HEAD is moved", ROOT, () -> {
+            VersionWorks x = ends.make();
+            x.detach(0, TOP);
+            x.startBranch(0, 4);
+            x.reset(0, ROOT, 0);
+            return x.branchAt(0, 4);
+        });
+        Due.is("from a detached HEAD nothing reaches what it was at", 0, () -> {
+            VersionWorks x = Scenes.line(2);
+            x.detach(0, x.head(0));
+            int made = Scenes.commit(x, 0, 0, 5, 5);
+            x.startBranch(0, 4);
+            x.expireReflog(0, 0);
+            return Edge.yes(x.isReached(0, made));
+        });
         Edge.is("head", "NONE if there is none", NONE, Scenes::unborn, x -> x.head(0));
         Edge.is("headBranch", "also an unborn one", 1, Scenes::unborn, x -> x.headBranch(0));
         Edge.is("headBranch", "NONE if HEAD is detached", NONE, ends, x -> x.detach(0, TOP) < 0 ? 9 : x.headBranch(0));
@@ -603,6 +651,17 @@ final class EdgesOfAnswers {
         Due.is("four", 4, () -> {
             VersionWorks x = more.make();
             return x.wouldSend(0, x.head(0));
+        });
+        Due.is("from the other one", 4, () -> {
+            VersionWorks x = ends.make();
+            Scenes.commit(x, 1, 7, 881, 1);
+            return x.wouldSend(1, x.head(1));
+        });
+        Due.is("deleted from the other one", TOP, () -> {
+            VersionWorks x = ends.make();
+            x.deleteBranch(1, 5, true);
+            int there = x.pushDelete(1, 5);
+            return x.branchAt(0, 5) == NONE && x.trackAt(1, 5) == NONE ? there : 9;
         });
         for (String method : new String[] {"rounds", "told", "sent", "doubles"}) {
             Edge.says(method, "in the latest transfer".substring(method.equals("rounds") ? 3 : 0));

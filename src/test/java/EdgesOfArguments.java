@@ -80,6 +80,15 @@ final class EdgesOfArguments {
     }
 
     public static void main(String[] args) {
+        Due.same("NONE is -1", -1, NONE);
+        Edge.says("part 0", "IndexOutOfBoundsException is thrown if a repository is not 0 or 1, a path not 0 to 15, the number of a "
+                + "branch, tag or track not 0 to 5, a place is not one of the row in which it is looked up, or an object number is "
+                + "not that of an object that is present in the repository, or that object is not of the kind that the method "
+                + "names. IllegalArgumentException is thrown if another argument is out of its range.");
+        Edge.says("part 0", "A method that throws an exception changes nothing at all, however far its work had come.");
+        Edge.says("part 0", "If several apply, the one that the throws clauses name first is thrown");
+        Edge.says("part 0", "To ask changes nothing. NONE is -1.");
+        Edge.says("part 0", "No method of one repository changes the other one, but push() and pushDelete().");
         for (Row row : rows()) {
             test(row);
         }
@@ -362,6 +371,7 @@ final class EdgesOfArguments {
             }
             List<Object> wrong = wrong(row, name);
             boolean range = isRange(row.method, name);
+            asTold(row.method, name, wrong);
             (range ? ranges : places).put(k, wrong);
             String due = range ? Due.ARGUMENT : Due.INDEX;
             for (Object value : wrong) {
@@ -375,6 +385,17 @@ final class EdgesOfArguments {
             }
         }
         precedence(row, places, ranges);
+    }
+
+    /** What is tried of a range is just beside the least and the greatest number that the document tells of it. */
+    private static void asTold(String method, String name, List<Object> wrong) {
+        boolean told = RANGES.containsKey(name) || name.equals("stage");
+        if (told) {
+            List<Integer> numbers = Doc.numbersOf(method, name);
+            Due.yes(method + " tells a range of " + name, numbers.size() >= 2);
+            Due.same(method + " " + name + ": one too small", java.util.Collections.min(numbers) - 1, wrong.get(0));
+            Due.same(method + " " + name + ": one too large", java.util.Collections.max(numbers) + 1, wrong.get(1));
+        }
     }
 
     /** The call is accepted; if it asks it changes nothing; the other repository is changed by pushes alone. */

@@ -9,6 +9,8 @@ final class EdgesOfTerms0 {
 
     public static void main(String[] args) {
         closedAndWithoutDoubles();
+        neverChanged();
+        busyOnes();
         fetchesComeThrough();
         twentyTwo();
         collectsNothingReached();
@@ -87,6 +89,108 @@ final class EdgesOfTerms0 {
         }
     }
 
+    private static void neverChanged() {
+        Edge.says("part 0", "An object is one of four kinds, and never changes");
+        VersionWorks x = Scenes.ends();
+        String[] before = new String[x.objects(0)];
+        for (int o = 0; o < before.length; o++) {
+            before[o] = held(x, 0, o);
+        }
+        for (int k = 0; k < 8; k++) {
+            x.rehearse(0, 100 + k, 40);
+            x.pack(0, k, 8 - k);
+            x.fetch(1, 240);
+        }
+        for (int o = 0; o < before.length; o++) {
+            Due.same("it holds what it held", before[o], held(x, 0, o));
+        }
+    }
+
+    /** In a merge that stopped: what does not name "busy" in its clause is not refused. */
+    private static void busyOnes() {
+        Edge.says("part 0", "While one is in progress the repository is busy: the methods whose throws clause says \"busy\" throw then; "
+                + "all others can be called.");
+        Map<String, Edge.Act> others = new HashMap<>();
+        others.put("write", x -> x.write(0, 7, 1));
+        others.put("insertLine", x -> x.insertLine(0, 0, 0, 1));
+        others.put("deleteLine", x -> x.deleteLine(0, 0, 0));
+        others.put("removeFile", x -> x.removeFile(0, 0));
+        others.put("moveFile", x -> x.moveFile(0, 0, 1));
+        others.put("ignore", x -> Edge.yes(x.ignore(0, 0, true)));
+        others.put("clean", x -> x.clean(0));
+        others.put("add", x -> x.add(0, 0));
+        others.put("addAll", x -> x.addAll(0));
+        others.put("unstage", x -> x.unstage(0, 0));
+        others.put("restore", x -> x.restore(0, 7));
+        others.put("tick", x -> x.tick(0, 1));
+        others.put("branch", x -> x.branch(0, 1, Scenes.TOP));
+        others.put("moveBranch", x -> x.moveBranch(0, 0, Scenes.TOP));
+        others.put("deleteBranch", x -> x.deleteBranch(0, 0, false));
+        others.put("renameBranch", x -> x.renameBranch(0, 2, 1));
+        others.put("tag", x -> x.tag(0, 1, Scenes.TOP));
+        others.put("annotate", x -> x.annotate(0, 1, Scenes.TOP, 1));
+        others.put("deleteTag", x -> x.deleteTag(0, 0));
+        others.put("proceed", x -> x.addAll(0) >= 0 ? x.proceed(0) : 0);
+        others.put("abort", x -> x.abort(0));
+        others.put("takeStage", x -> x.takeStage(0, 0, 0));
+        others.put("mergeFile", x -> x.mergeFile(0, 0, 0));
+        others.put("fetch", x -> x.fetch(0, 240));
+        others.put("push", x -> x.push(0, 2, 1, 0, 240));
+        others.put("pushDelete", x -> x.pushDelete(0, 0));
+        others.put("pruneTracks", x -> x.pruneTracks(0));
+        others.put("collect", x -> x.collect(0, 0));
+        others.put("expireReflog", x -> x.expireReflog(0, 0));
+        others.put("pack", x -> x.pack(0, 8, 8));
+        others.put("bisectStart", x -> x.bisectStart(0, Scenes.TOP, Scenes.ROOT));
+        others.put("bisectEnd", x -> x.bisectStart(0, Scenes.TOP, Scenes.ROOT) + x.bisectEnd(0));
+        others.put("stashDrop", x -> x.stashDrop(0, 0));
+        others.put("rehearse", x -> x.rehearse(0, 1, 40));
+        others.put("isSound", x -> Edge.yes(x.isSound(0, 0)));
+        for (String method : others.keySet()) {
+            Due.yes(method + " does not say busy", !Doc.clause(method, Due.STATE).contains("busy"));
+            String got = Due.told(() -> others.get(method).on(Scenes.stopped()));
+            Due.yes(method + " can be called, but: " + got, !got.endsWith("Exception"));
+        }
+        for (String method : Doc.PARAMETERS.keySet()) {
+            if (Doc.clause(method, Due.STATE).contains("if busy")) {
+                Due.yes(method + " throws in all operations", busyOne(method));
+            }
+        }
+    }
+
+    private static boolean busyOne(String method) {
+        Map<String, Edge.Act> busy = new HashMap<>();
+        busy.put("commit", x -> x.commit(0, 0, 0));
+        busy.put("amend", x -> x.amend(0, 0, 0));
+        busy.put("startBranch", x -> x.startBranch(0, 1));
+        busy.put("switchTo", x -> x.switchTo(0, 5));
+        busy.put("detach", x -> x.detach(0, x.head(0)));
+        busy.put("reset", x -> x.reset(0, x.head(0), 2));
+        busy.put("merge", x -> x.merge(0, x.head(0), 0, 0, 0, 0));
+        busy.put("cherryPick", x -> x.cherryPick(0, Scenes.TOP, 0, 0));
+        busy.put("revert", x -> x.revert(0, Scenes.TOP, 0, 0, 0, 0));
+        busy.put("rebase", x -> x.rebase(0, x.head(0), x.head(0), 0));
+        busy.put("stashPush", x -> x.stashPush(0, 0, 0));
+        busy.put("stashApply", x -> Edge.yes(x.stashApply(0, 0, false)));
+        busy.put("stashPop", x -> Edge.yes(x.stashPop(0, 0, false)));
+        Edge.Scene[] scenes = {Scenes::stopped, Scenes::picking, Scenes::reverting, Scenes::rebasing};
+        boolean all = busy.containsKey(method);
+        for (Edge.Scene scene : scenes) {
+            VersionWorks x = scene.make();
+            for (int path : new int[] {0, 8, 15}) {
+                x.unstage(0, path);
+                if (x.fileLines(0, path) != NONE) {
+                    x.removeFile(0, path);
+                }
+            }
+            for (int path : new int[] {0, 15}) {
+                x.restore(0, path);
+            }
+            all = all && Due.told(() -> busy.get(method).on(x)).equals(Due.STATE);
+        }
+        return all;
+    }
+
     /** All that a commit tells, however its repository numbers it. */
     private static String history(VersionWorks x, int r, int o, Map<Integer, String> known) {
         if (o == NONE) {
@@ -114,9 +218,16 @@ final class EdgesOfTerms0 {
             if (x.objects(0) + x.objects(1) >= 240) {
                 continue;
             }
-            for (int times = 0; times < 20 && x.fetch(0, 22) == NONE; times++) {
-                Due.yes("it brings no more than the limit", x.sent() == 22);
+            int came = commits(x, 0);
+            boolean through = false;
+            for (int times = 0; times < 20 && !through; times++) {
+                through = x.fetch(0, 22) != NONE;
+                Due.yes("it brings no more than the limit", through || x.sent() == 22);
+                Due.yes("it brings one commit at least", through || commits(x, 0) > came);
+                came = commits(x, 0);
             }
+            Edge.says("part all", "so asking again and again, with nothing else in between, comes through at last, where there is room");
+            Due.yes("it comes through at last", through);
             for (int b = 0; b < 6; b++) {
                 int commit = x.branchAt(1, b);
                 if (commit != NONE) {
@@ -343,6 +454,7 @@ final class EdgesOfTerms0 {
     }
 
     private static void numbersAndStamps() {
+        Edge.says("part 0", "To store an object: if one is present that holds the same, it is that one");
         Edge.says("part 0", "otherwise it gets the next number, from 0 on; a number is never used again, also when its object "
                 + "was collected");
         VersionWorks x = new VersionWorks();
@@ -501,7 +613,8 @@ final class EdgesOfTerms0 {
         Due.is("not tracked", NONE, () -> x.fileLines(0, 1));
         Due.yes("a conflict", x.fileLines(0, 0) != NONE);
         Due.yes("an entry", x.fileLines(0, 7) != NONE);
-        Edge.says("part 0", "or if the index has nothing there and there is no file");
+        Edge.says("part 0", "if the index has an entry there and the file is there and has the lines of that blob, or if the index "
+                + "has nothing there and there is no file");
         Due.is("nothing and no file", 0, () -> x.unstaged(0, 1));
     }
 

@@ -15,6 +15,7 @@ final class EdgesOfTerms7 {
         longRows();
         bases();
         basesOfBases();
+        theDepth3();
         touched();
         stored();
         mergesMade();
@@ -25,6 +26,7 @@ final class EdgesOfTerms7 {
         rebaseSteps();
         rebaseEnds();
         rebaseBranches();
+        undoneRebase();
         proceeds();
         skips();
         aborts();
@@ -79,6 +81,11 @@ final class EdgesOfTerms7 {
         int lines = x.mergedLines(0, one, other, 0);
         for (int k = 0; k < lines; k++) {
             out.append(k == 0 ? "" : " ").append(x.mergedLine(0, one, other, 0, k));
+        }
+        int[] beside = {9, 1, 2, 3, 8};
+        for (int k = 0; k < 5; k++) {
+            int place = k;
+            Due.is("path 15", beside[k], () -> x.mergedLine(0, one, other, 15, place));
         }
         Due.index("behind the last line", () -> x.mergedLine(0, one, other, 0, Math.max(lines, 0)));
         return ((bits & 1) != 0 ? "!" : "") + (lines == NONE ? "nothing" : out.toString());
@@ -304,6 +311,60 @@ final class EdgesOfTerms7 {
         Due.same("of the first base", "30", base(v, v.branchAt(0, 3), v.branchAt(0, 4), 0).split(" ")[0]);
     }
 
+    /** A merge of two commits, whatever comes of it, with this line alone at path 0 in the end; a branch is at it. */
+    private static int made(VersionWorks x, int branch, int one, int other, int line) {
+        x.reset(0, one, 2);
+        x.detach(0, one);
+        if (other == NONE) {
+            put(x, 0, row(line));
+            x.addAll(0);
+            x.commit(0, 1, line);
+        } else {
+            int how = x.merge(0, other, 1, 0, 1, line);
+            put(x, 0, row(line));
+            x.addAll(0);
+            if (how == 3) {
+                x.proceed(0);
+            } else {
+                x.amend(0, 1, line);
+            }
+        }
+        if (x.branchAt(0, branch) != NONE) {
+            x.deleteBranch(0, branch, true);
+        }
+        x.branch(0, branch, x.head(0));
+        return x.head(0);
+    }
+
+    /**
+     * Criss-crosses upon criss-crosses, each of which takes the merged snapshot of the bases below as its own base. At the
+     * depth 3 the first base alone counts: there the line 2, with which the rest comes out without marks; by one depth less
+     * or one more the lines 2 and 5 would clash, and all above them.
+     */
+    private static void theDepth3() {
+        Edge.says("part 7", "whose base is the base snapshot of the set of the bases ahead of this one, and this one, at a depth 1 "
+                + "greater");
+        VersionWorks x = new VersionWorks();
+        put(x, 15, row(1));
+        put(x, 0, row(1));
+        x.addAll(0);
+        int root = x.commit(0, 1, 0);
+        int[][] lines = {{2, 3}, {2, 5}, {5, 6}, {6, 7}, {8, 9}};
+        int one = root;
+        int other = root;
+        for (int level = 0; level < lines.length; level++) {
+            int next = made(x, 1, one, level == 0 ? NONE : other, lines[level][0]);
+            int beside = made(x, 2, other, level == 0 ? NONE : one, lines[level][1]);
+            one = next;
+            other = beside;
+        }
+        int a = one;
+        int b = other;
+        Due.is("two bases", 2, () -> x.bases(0, a, b));
+        Due.same("the base snapshot", "7", base(x, a, b, 0));
+        Due.same("the other way round", "7", base(x, b, a, 0));
+    }
+
     // ---- to merge into the head
 
     private static void touched() {
@@ -364,6 +425,7 @@ final class EdgesOfTerms7 {
         Due.is("ours", 0, () -> z.stamp(0, z.stage(0, 0, 1)));
         Due.is("theirs", 0, () -> z.stamp(0, z.stage(0, 0, 2)));
         Due.is("the base is stored", 5, () -> z.stamp(0, z.stage(0, 0, 0)));
+        Edge.says("part 7", "With a conflict, the base, if it has something there, is stored as a blob");
         Edge.says("part 7", "as its stages (none for nothing)");
         VersionWorks w = sides(NOTHING, row(2), row(3));
         w.merge(0, w.branchAt(0, 2), 0, 0, 1, 1);
@@ -660,6 +722,42 @@ final class EdgesOfTerms7 {
         }
     }
 
+    /** What a rebase has done to long files at the first and the last path is undone, as its last step is refused. */
+    private static void undoneRebase() {
+        Edge.says("part 7", "If something is in the way, or cannot be carried, in any step, the method throws.");
+        Edge.Scene scene = () -> {
+            VersionWorks x = new VersionWorks();
+            int[] sixty = new int[60];
+            for (int k = 0; k < 60; k++) {
+                sixty[k] = 1 + k;
+            }
+            put(x, 0, sixty);
+            put(x, 15, sixty);
+            int root = commit(x, 0);
+            for (int k = 0; k < 60; k++) {
+                sixty[k] = 99 - k;
+            }
+            put(x, 0, sixty);
+            put(x, 15, sixty);
+            x.branch(0, 1, commit(x, 1));
+            x.reset(0, root, 2);
+            one(x, 1, 2);
+            one(x, 2, 3);
+            x.removeFile(0, 2);
+            x.add(0, 2);
+            x.commit(0, 1, 4);
+            x.tick(0, 5);
+            x.write(0, 2, 9);
+            return x;
+        };
+        Edge.refused("a file in the way of the second step", Due.STATE, scene,
+                x -> x.rebase(0, x.branchAt(0, 1), x.branchAt(0, 1), 0));
+        VersionWorks x = scene.make();
+        x.removeFile(0, 2);
+        Due.is("without it", 2, () -> x.rebase(0, x.branchAt(0, 1), x.branchAt(0, 1), 0));
+        Due.is("the last line of the last path", 40, () -> x.fileLine(0, 15, 59));
+    }
+
     private static void proceeds() {
         Edge.says("part 7", "if the index tells the head snapshot, and the operation is no merge, no commit is made; otherwise the "
                 + "snapshot of the index is stored, and the commit that the operation would have made (the date is the clock), and "
@@ -699,6 +797,7 @@ final class EdgesOfTerms7 {
         Due.is("over", 2, () -> z.proceed(0));
         Due.same("all three", "8 7 44", messages(z, TOP));
         Due.is("the author of the commit picked", 4, () -> z.author(0, z.parent(0, z.parent(0, z.head(0), 0), 0)));
+        Edge.says("part 7", "A step that stops at conflicts stops the rebase; the commits behind it are still to do.");
         VersionWorks w = Scenes.rebasing();
         for (int p = 0; p < 16; p++) {
             w.unstage(0, p);

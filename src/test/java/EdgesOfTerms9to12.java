@@ -987,6 +987,9 @@ final class EdgesOfTerms9to12 {
                 Due.same("seed " + seed + ": the same state", "", Whole.difference(Whole.of(x), Whole.of(y)));
             }
         }
+        few(0);
+        few(1);
+        ofMerges();
         Edge.says("part 12", "By a seed, x is that seed first");
         int s = 65535;
         VersionWorks x = Scenes.empty();
@@ -1017,5 +1020,46 @@ final class EdgesOfTerms9to12 {
             Due.is("with what throws left out", rehearse(v, 0, seed, 40), () -> w.rehearse(0, t, 40));
             Due.same("the same state", "", Whole.difference(Whole.of(v), Whole.of(w)));
         }
+    }
+
+    /** Files without lines, or of one line: there is no line to delete, or just the one. */
+    private static void few(int lines) {
+        Edge.says("part 12", "If there is a file with a line: a lot of how many lines it has, and deleteLine().");
+        for (int seed = 0; seed < 300; seed++) {
+            VersionWorks x = new VersionWorks();
+            VersionWorks y = new VersionWorks();
+            for (VersionWorks each : new VersionWorks[] {x, y}) {
+                for (int path = 0; path <= 15; path += 5) {
+                    each.write(0, path, lines);
+                }
+            }
+            int s = seed * 211;
+            Due.is("seed " + s, rehearse(x, 0, s, 3), () -> y.rehearse(0, s, 3));
+            Due.same("seed " + s + ": the same state", "", Whole.difference(Whole.of(x), Whole.of(y)));
+        }
+    }
+
+    /** Branches at merges, of which a cherry-pick has the first parent as its base. */
+    private static void ofMerges() {
+        Edge.says("part 12", "cherryPick() of its commit, by its first parent if it has two, without a favour");
+        for (int seed = 0; seed < 300; seed++) {
+            VersionWorks x = merged();
+            VersionWorks y = merged();
+            int s = seed * 211;
+            Due.is("seed " + s, rehearse(x, 0, s, 3), () -> y.rehearse(0, s, 3));
+            Due.same("seed " + s + ": the same state", "", Whole.difference(Whole.of(x), Whole.of(y)));
+        }
+    }
+
+    private static VersionWorks merged() {
+        VersionWorks x = Scenes.ends();
+        x.merge(0, SIDE, 0, 2, 0, 0);
+        int made = x.head(0);
+        x.moveBranch(0, 0, made);
+        x.branch(0, 1, made);
+        x.reset(0, TOP, 2);
+        x.detach(0, TOP);
+        x.moveBranch(0, 2, made);
+        return x;
     }
 }
