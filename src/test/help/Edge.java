@@ -129,6 +129,7 @@ final class Edge {
         Due.same(method + " with just enough room", 240, enough.objects(taker));
         state(method, "no room", () -> {
             VersionWorks x = scene.make();
+            x.tick(taker, 1);
             Scenes.fill(x, taker, takes - 1);
             x.tick(taker, 1);
             return x;

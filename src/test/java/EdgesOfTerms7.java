@@ -216,6 +216,7 @@ final class EdgesOfTerms7 {
             VersionWorks z = long0(28 + more, 28, true);
             Due.is("by a favour it is shorter", 2, () -> z.merge(0, z.branchAt(0, 2), 0, 2, 1, 1));
             Edge.says("mergeFile", "if this has more than 60 lines, with the lines of ours");
+            y.write(0, 0, 7);
             Due.is("mergeFile", 1, () -> y.mergeFile(0, 0, 0));
             Due.is("the merged row, or ours", m == 0 ? 60 : 30, () -> y.fileLines(0, 0));
             Due.is("by favour theirs", 1, () -> y.mergeFile(0, 0, 2));
@@ -231,6 +232,7 @@ final class EdgesOfTerms7 {
         VersionWorks y = long0(59, 59, false);
         Due.is("119 lines", 3, () -> y.merge(0, y.branchAt(0, 2), 0, 1, 1, 1));
         Due.is("ours", 60, () -> y.fileLines(0, 0));
+        y.removeFile(0, 0);
         Due.is("no stretch clashes", 0, () -> y.mergeFile(0, 0, 2));
         Due.is("still ours", 60, () -> y.fileLines(0, 0));
     }
@@ -344,25 +346,27 @@ final class EdgesOfTerms7 {
     private static void theDepth3() {
         Edge.says("part 7", "whose base is the base snapshot of the set of the bases ahead of this one, and this one, at a depth 1 "
                 + "greater");
-        VersionWorks x = new VersionWorks();
-        put(x, 15, row(1));
-        put(x, 0, row(1));
-        x.addAll(0);
-        int root = x.commit(0, 1, 0);
-        int[][] lines = {{2, 3}, {2, 5}, {5, 6}, {6, 7}, {8, 9}};
-        int one = root;
-        int other = root;
-        for (int level = 0; level < lines.length; level++) {
-            int next = made(x, 1, one, level == 0 ? NONE : other, lines[level][0]);
-            int beside = made(x, 2, other, level == 0 ? NONE : one, lines[level][1]);
-            one = next;
-            other = beside;
+        int[][][] rows = {{{2, 3}, {2, 5}, {5, 6}, {6, 7}, {8, 9}}, {{2, 3}, {4, 2}, {4, 6}, {6, 7}, {8, 9}}};
+        for (int[][] lines : rows) {
+            VersionWorks x = new VersionWorks();
+            put(x, 15, row(1));
+            put(x, 0, row(1));
+            x.addAll(0);
+            int root = x.commit(0, 1, 0);
+            int one = root;
+            int other = root;
+            for (int level = 0; level < lines.length; level++) {
+                int next = made(x, 1, one, level == 0 ? NONE : other, lines[level][0]);
+                int beside = made(x, 2, other, level == 0 ? NONE : one, lines[level][1]);
+                one = next;
+                other = beside;
+            }
+            int a = one;
+            int b = other;
+            Due.is("two bases", 2, () -> x.bases(0, a, b));
+            Due.same("the base snapshot", "7", base(x, a, b, 0));
+            Due.same("the other way round", "7", base(x, b, a, 0));
         }
-        int a = one;
-        int b = other;
-        Due.is("two bases", 2, () -> x.bases(0, a, b));
-        Due.same("the base snapshot", "7", base(x, a, b, 0));
-        Due.same("the other way round", "7", base(x, b, a, 0));
     }
 
     // ---- to merge into the head
