@@ -16,6 +16,8 @@ final class Pair {
     final String name;
     final List<String> calls = new ArrayList<>();
     boolean broken;
+    /** Whether arguments are drawn from the ends of their ranges. */
+    boolean ends;
 
     Pair(String name) {
         this.name = name;
@@ -193,6 +195,10 @@ final class Pair {
             return kind == 'f' ? (Object) random.nextBoolean() : kind == 'd' ? (Object) random.nextLong()
                     : (Object) new int[] {-2, -1, 240, 1000, Integer.MIN_VALUE, Integer.MAX_VALUE}[random.nextInt(6)];
         }
+        Integer end = ends ? end(kind, random, repo) : null;
+        if (end != null) {
+            return end;
+        }
         switch (kind) {
             case 'r': return repo;
             case 'p': return conflictOr(random, repo, new int[] {0, 1, 2, 5, 6, 11}[random.nextInt(6)]);
@@ -222,6 +228,29 @@ final class Pair {
             case 'B': return random.nextInt(10) == 0 ? -1 : pick(0, random, repo);
             case 'C': return random.nextInt(10) == 0 ? -1 : pick(2, random, repo);
             default: throw new RuntimeException("no such kind of argument: " + kind);
+        }
+    }
+
+    private static int oneOf(Random random, int... all) {
+        return all[random.nextInt(all.length)];
+    }
+
+    /** An argument at, or just beside, an end of its range; null where the kind has none. */
+    private Integer end(char kind, Random random, int repo) {
+        switch (kind) {
+            case 'p': return conflictOr(random, repo, oneOf(random, 0, 15, 0, 15, 3, 4, 12));
+            case 'n': return oneOf(random, 0, 5, 0, 5, 1, 4, random.nextInt(8) == 0 ? 6 : 2);
+            case 'l': return oneOf(random, 1, 99, 2, 98, 1, 99, random.nextInt(8) == 0 ? 100 : 3);
+            case 'k': return oneOf(random, 0, 1, 58, 59, 60, 61, random.nextInt(62), random.nextInt(62));
+            case 'a': return oneOf(random, 0, 9, 0, 9, random.nextInt(8) == 0 ? 10 : 1);
+            case 'm': return oneOf(random, 0, 99, 0, 99, random.nextInt(8) == 0 ? 100 : 1);
+            case 'w': return oneOf(random, 1, 999, 1, 2, random.nextInt(8) == 0 ? 1000 : 3);
+            case 'h': return oneOf(random, 0, 1, 100, 50, 66, random.nextInt(8) == 0 ? 101 : 99);
+            case 'x': return oneOf(random, 0, 1, 8, 9, 2);
+            case 'g': return oneOf(random, 1, 2, 4, 21, 22, 239, 240, 240, 240);
+            case 'e': return oneOf(random, 0, 1, 2, 9999, random.nextInt(9) == 0 ? 10000 : 998);
+            case 'i': return oneOf(random, 0, 5, random.nextInt(6), 0, 0);
+            default: return null;
         }
     }
 

@@ -36,6 +36,8 @@ final class EdgesOfEnds {
         transfersAfterTransfers();
         danglingAgain();
         packsOfSixty();
+        whatIsAsked();
+        backwards();
         Edge.end("EdgesOfEnds");
     }
 
@@ -1044,5 +1046,85 @@ final class EdgesOfEnds {
         Due.is("the first line", 1, () -> x.packedLine(0, 0, 0));
         Due.index("behind the last line", () -> x.packedLine(0, 0, 60));
         Due.index("of a row without lines", () -> x.packedLine(0, 2, 0));
+    }
+
+    private static void whatIsAsked() {
+        Edge.says("part 0", "The index tells a snapshot, if it has no conflict.");
+        Edge.says("part 7", "This asks that the index tells the head snapshot.");
+        VersionWorks x = Scenes.clashed();
+        Due.state("with a conflict it tells none: commit", () -> x.commit(0, 0, 0));
+        Due.state("amend", () -> x.amend(0, 0, 0));
+        Due.state("merge", () -> x.merge(0, SIDE, 0, 0, 0, 0));
+        Due.state("cherryPick of what is there already", () -> x.cherryPick(0, ROOT, 0, 1));
+        x.takeStage(0, 7, 1);
+        x.unstage(0, 7);
+        Due.is("the conflict is over", 3, () -> x.merge(0, SIDE, 0, 0, 0, 0));
+        Edge.says("part 8", "All that is asked ahead of the transfer.");
+        Edge.refused("a push that breaks off is refused all the same, and nothing comes", Due.STATE, () -> {
+            VersionWorks y = Scenes.ends();
+            commit(y, 7, 881, 1);
+            return y;
+        }, y -> y.push(0, 2, 3, 0, 1));
+        Edge.says("part 11", "and the file there must be as the index, or it is in the way");
+        Edge.refused("a file where the index has nothing", Due.STATE, () -> {
+            VersionWorks y = Scenes.ends();
+            y.write(0, 1, 1);
+            y.add(0, 1);
+            y.stashPush(0, 0, 0);
+            y.write(0, 1, 1);
+            return y;
+        }, y -> Edge.yes(y.stashApply(0, 0, false)));
+        Edge.refused("a file with a conflict to come", Due.STATE, () -> {
+            VersionWorks y = Scenes.ends();
+            commit(y, 7, 66, 3);
+            y.removeFile(0, 7);
+            return y;
+        }, y -> Edge.yes(y.stashApply(0, 0, false)));
+        Edge.says("part 9", "trees, commits and tag objects whole");
+        VersionWorks z = Scenes.ends();
+        z.pack(0, 8, 8);
+        int cost = 0;
+        for (int o = 0; o < z.objects(0); o++) {
+            int kind = z.kind(0, o);
+            int base = kind == 0 ? z.packBase(0, o) : NONE;
+            cost += kind == NONE ? 0 : kind == 1 ? 6 : kind == 2 ? 8 : kind == 3 ? 5
+                    : base == NONE ? 2 + z.blobLines(0, o) : z.deltaCost(0, base, o);
+        }
+        Due.is("the sum of all", cost, () -> z.packSize(0));
+        Edge.says("part all", "so two commits of one repository that tell the same history, files, authors, dates and messages have one "
+                + "number");
+        VersionWorks w = Scenes.ends();
+        w.detach(0, ROOT);
+        int one = commit(w, 7, 881, 1);
+        w.detach(1, ROOT);
+        Due.is("made in the other repository, and fetched", one, () -> {
+            w.branch(1, 4, Scenes.commit(w, 1, 7, 881, 1));
+            w.fetch(0, 240);
+            return w.trackAt(0, 4);
+        });
+        Due.is("nothing was sent", 0, () -> w.sent());
+    }
+
+    private static void backwards() {
+        Edge.says("part 6", "the difference of the two blobs has as many pairs as the longest common row of the two rows told backwards");
+        Random random = new Random(5);
+        for (int times = 0; times < 60; times++) {
+            VersionWorks x = new VersionWorks();
+            for (int row = 0; row < 2; row++) {
+                int length = random.nextInt(61);
+                int[] lines = new int[length];
+                int[] turned = new int[length];
+                for (int k = 0; k < length; k++) {
+                    lines[k] = 1 + random.nextInt(5);
+                    turned[length - 1 - k] = lines[k];
+                }
+                put(x, row, lines);
+                put(x, 2 + row, turned);
+            }
+            Due.is("backwards", x.diffSize(0, x.indexed(0, 0), x.indexed(0, 1)),
+                    () -> x.diffSize(0, x.indexed(0, 2), x.indexed(0, 3)));
+            Due.is("the other way round", x.diffSize(0, x.indexed(0, 0), x.indexed(0, 1)),
+                    () -> x.diffSize(0, x.indexed(0, 1), x.indexed(0, 0)));
+        }
     }
 }

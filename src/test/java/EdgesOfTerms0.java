@@ -228,6 +228,14 @@ final class EdgesOfTerms0 {
             }
             Edge.says("part all", "so asking again and again, with nothing else in between, comes through at last, where there is room");
             Due.yes("it comes through at last", through);
+            Edge.says("part all", "a push that comes through does the same over there");
+            int pushed = x.branchAt(1, 0);
+            String got = pushed == NONE ? "none" : Due.told(() -> x.push(1, 0, 5, 1, 240));
+            if (pushed != NONE && !got.endsWith("Exception")) {
+                Due.same("the twin over there", x.twin(1, pushed), x.branchAt(0, 5));
+                Due.same("commit for commit, file for file", history(x, 1, pushed, new HashMap<>()),
+                        history(x, 0, x.branchAt(0, 5), new HashMap<>()));
+            }
             for (int b = 0; b < 6; b++) {
                 int commit = x.branchAt(1, b);
                 if (commit != NONE) {
