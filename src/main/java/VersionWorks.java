@@ -1650,7 +1650,7 @@ public final class VersionWorks {
             System.arraycopy(entries, from, parts, count * PARTS, PARTS);
         }
 
-        /** Drafts an object of another store with the twins of its parts; answers whether they all are known. */
+        /** Answers whether the twins of all its parts are known. */
         private boolean draftTwin(Store from, int object, int[] twins) {
             draft(from.kinds[object], from.authors[object], from.dates[object], from.messages[object]);
             lengths[count] = from.lengths[object];
@@ -1726,7 +1726,7 @@ public final class VersionWorks {
             }
         }
 
-        /** Stores what there is at a path as a blob; NONE if there is nothing. */
+        /** NONE if there is nothing at the path. */
         private int keepRow(Snap rows, int path, int clock) {
             int length = rows.lengths[path];
             if (length == NONE) {
@@ -1738,7 +1738,6 @@ public final class VersionWorks {
             return keep(clock);
         }
 
-        /** Stores a snapshot, a blob a path, and a commit of it. */
         private int keepCommit(int[] blobs, int parent, int other, int author, int message, int clock) {
             for (int folder = 0; folder < PARTS; folder++) {
                 draftTree(blobs, folder * PARTS);
@@ -1846,7 +1845,7 @@ public final class VersionWorks {
             keepTops(into);
         }
 
-        /** Lists a set of commits newest first, and answers how many there are. */
+        /** Answers how many commits there are. */
         private int listNewest(long[] set, int[] into) {
             Arrays.fill(waiting, 0);
             for (int commit = 0; commit < count; commit++) {
@@ -1922,7 +1921,6 @@ public final class VersionWorks {
             return depth;
         }
 
-        /** What an object costs that is not packed as a delta. */
         private int wholeCost(int object) {
             int kind = kinds[object];
             return kind == BLOB ? 2 + lengths[object] : kind == TREE ? 6 : kind == COMMIT ? 8 : 5;
@@ -2028,7 +2026,6 @@ public final class VersionWorks {
             stages[path * STAGES + 2] = theirs;
         }
 
-        /** Lets the index and the file at a path be as a blob, or as nothing. */
         private void setBoth(int path, Store store, int blob) {
             setEntry(path, blob);
             files.putBlob(path, store, blob);
@@ -2486,7 +2483,6 @@ public final class VersionWorks {
             }
         }
 
-        /** Goes to the origin of a line. */
         private void trace(Store store, int commit, int path, int place, int limit) {
             atCommit = commit;
             atPath = path;
@@ -2620,7 +2616,7 @@ public final class VersionWorks {
 
         // ---- rows
 
-        /** Puts a mark, if it is not 0, and some lines behind the merged row. */
+        /** A mark of 0 is none. */
         private void append(int mark, int[] lines, int from, int to) {
             if (mark != 0 && rowLength < ROOM) {
                 row[rowLength] = mark;
@@ -2632,7 +2628,7 @@ public final class VersionWorks {
             }
         }
 
-        /** Merges the rows that three snapshots have of a path; what is nothing is a row without lines. */
+        /** What is nothing is a row without lines here. */
         private void mergeRows(Snap from, Snap our, Snap their, int path, int favour) {
             int at = path * MOST_LINES;
             toOurs.compare(from.lines, at, from.lengths[path], our.lines, at, our.lengths[path]);
@@ -2666,7 +2662,6 @@ public final class VersionWorks {
             }
         }
 
-        /** Whether two of the three rows have the same lines in the stretch. */
         private boolean isStretch(int[] lines, int bound, int[] others, int otherBound) {
             int length = stretch[bound + 1] - stretch[bound];
             boolean same = length == stretch[otherBound + 1] - stretch[otherBound];
@@ -2678,7 +2673,6 @@ public final class VersionWorks {
 
         // ---- snapshots
 
-        /** Merges three snapshots; tells the result, or what is left, and the bits of the paths. */
         private void mergeAll(Snap from, Snap our, Snap their, int favour) {
             clashing = 0;
             onesided = 0;
@@ -2871,7 +2865,6 @@ public final class VersionWorks {
             }
         }
 
-        /** Whether the index and the files can be carried from the head snapshot to that of a commit of a store. */
         private boolean canCarry(int from, Store other, int to) {
             for (int path = 0; path < PATHS; path++) {
                 int older = store.blobOf(from, path);
@@ -2886,7 +2879,7 @@ public final class VersionWorks {
             return true;
         }
 
-        /** Carries what can be carried; whether all can must have been asked. */
+        /** Whether all can be carried must have been asked: here it would be too late to refuse. */
         private void carry(int from, int to) {
             for (int path = 0; path < PATHS; path++) {
                 int older = store.blobOf(from, path);
@@ -2982,7 +2975,7 @@ public final class VersionWorks {
 
         // ---- merges and picks
 
-        /** Merges into the head what the base has become in a commit; answers whether it can be taken. */
+        /** The base must have been made; answers whether what comes out can be taken. */
         private boolean canJoin(int theirs, int favour) {
             merger.ours.putSnapshot(store, state.headCommit());
             merger.theirs.putSnapshot(store, theirs);
@@ -3019,7 +3012,6 @@ public final class VersionWorks {
             return merger.clashing != 0 ? STOPPED : merger.touched != 0 ? MADE : UNTOUCHED;
         }
 
-        /** Makes the commit of the operation in progress, and moves HEAD to it. */
         private int commitOperation() {
             int other = state.operation == MERGE ? state.opCommit : NONE;
             int head = state.headCommit();
@@ -3031,7 +3023,6 @@ public final class VersionWorks {
             return MADE;
         }
 
-        /** Ends an act as it came out: undone, stopped, or over. */
         private int conclude(int outcome) {
             if (outcome == REFUSED) {
                 undo();
@@ -3165,7 +3156,6 @@ public final class VersionWorks {
             return answer == REFUSED ? undo() : answer;
         }
 
-        /** Does the steps that are still to do, till one stops at conflicts, or the rebase is over. */
         private int rebaseOn() {
             for (int step = 0; step < SLOTS && state.todoCount > 0; step++) {
                 int commit = state.takeTodo();
@@ -3395,7 +3385,7 @@ public final class VersionWorks {
             return sound;
         }
 
-        /** Whether the merge has the result that was laid by, but at conflicts. */
+        /** What is left in a conflict tells ours ahead of theirs, so it may be another both ways. */
         private boolean isSecondResult() {
             boolean same = true;
             for (int path = 0; path < PATHS && same; path++) {
@@ -3478,7 +3468,7 @@ public final class VersionWorks {
             }
         }
 
-        /** Lets the receiver tell its commits, round by round; answers how many rounds there were. */
+        /** Answers how many rounds there were. */
         private int tell(Store receiver) {
             Arrays.fill(toldOf, 0L);
             Arrays.fill(common, 0L);
@@ -3825,7 +3815,7 @@ public final class VersionWorks {
             }
         }
 
-        /** Packs the blob at a place of the order, the last one packed being tried first as its base. */
+        /** Of several cheapest bases the one packed last is due, so that is tried first. */
         private void packBlob(Store store, int place, int window, int depth) {
             int blob = order[place];
             int least = store.wholeCost(blob);
@@ -3922,7 +3912,7 @@ public final class VersionWorks {
             }
         }
 
-        /** Finds which commits are left, and answers how many; without a bisection there are none. */
+        /** Answers how many are left; without a bisection there are none. */
         private int findLeft(Store store) {
             Arrays.fill(left, 0L);
             if (bad != NONE) {

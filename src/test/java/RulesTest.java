@@ -4,9 +4,13 @@ import com.sun.source.util.SourcePositions;
 import com.sun.source.util.TreePath;
 import com.sun.source.util.TreePathScanner;
 import com.sun.source.util.Trees;
+import java.lang.reflect.Array;
+import java.lang.reflect.Field;
 import java.nio.file.Path;
+import java.util.Collections;
 import java.util.HashMap;
 import java.util.HashSet;
+import java.util.IdentityHashMap;
 import java.util.List;
 import java.util.Map;
 import java.util.Set;
@@ -16,6 +20,11 @@ import javax.lang.model.element.ElementKind;
 import javax.lang.model.element.ExecutableElement;
 import javax.lang.model.element.Modifier;
 import javax.lang.model.element.TypeElement;
+import javax.lang.model.element.VariableElement;
+import javax.lang.model.type.ArrayType;
+import javax.lang.model.type.DeclaredType;
+import javax.lang.model.type.TypeKind;
+import javax.lang.model.type.TypeMirror;
 import javax.tools.JavaCompiler;
 import javax.tools.StandardJavaFileManager;
 import javax.tools.ToolProvider;
@@ -27,6 +36,10 @@ final class RulesTest {
     private static final Set<String> THROWN = Set.of("IllegalStateException", "IllegalArgumentException",
             "IndexOutOfBoundsException");
     private static final int DEEPEST = 8;
+    /** The room of a run, and how many objects of the class are to fit in, each with its own rows. */
+    private static final long ROOM = 7_300_000;
+    private static final long ROOM_OBJECTS = 600_000;
+    private static final int FITTING = 70;
 
     private static final Map<ExecutableElement, Set<ExecutableElement>> CALLS = new HashMap<>();
     private static final Map<ExecutableElement, Integer> DEPTHS = new HashMap<>();
@@ -51,7 +64,41 @@ final class RulesTest {
             Due.yes(method.getEnclosingElement() + "." + method + " goes " + depth + " deep", depth <= DEEPEST);
         }
         Due.yes("calls were read", CALLS.size() > 300);
+        for (ExecutableElement method : CALLS.keySet()) {
+            Due.yes(method + " calls itself with a depth", !CALLS.get(method).contains(method) || method.getParameters()
+                    .stream().anyMatch(one -> one.getSimpleName().contentEquals("depth")));
+        }
+        room();
         Due.end("RulesTest");
+    }
+
+    /** What one object holds, its own and all in it: objects and arrays, fields and elements. */
+    private static void room() throws IllegalAccessException {
+        Set<Object> met = Collections.newSetFromMap(new IdentityHashMap<>());
+        long size = measure(new VersionWorks(), met, 0);
+        Due.yes(FITTING + " objects of the class fit in the room, one has " + size, size * FITTING <= ROOM);
+        Due.yes("so do the objects in it, " + met.size(), met.size() * (long) FITTING <= ROOM_OBJECTS);
+    }
+
+    private static long measure(Object of, Set<Object> met, int deep) throws IllegalAccessException {
+        if (of == null || deep > 9 || !met.add(of)) {
+            return 0;
+        }
+        long size = 0;
+        if (of.getClass().isArray()) {
+            for (int k = 0; k < Array.getLength(of); k++) {
+                boolean plain = of.getClass().getComponentType().isPrimitive();
+                size += 1 + (plain ? 0 : measure(Array.get(of, k), met, deep + 1));
+            }
+            return size;
+        }
+        for (Field field : of.getClass().getDeclaredFields()) {
+            if (!java.lang.reflect.Modifier.isStatic(field.getModifiers())) {
+                field.setAccessible(true);
+                size += 1 + (field.getType().isPrimitive() ? 0 : measure(field.get(of), met, deep + 1));
+            }
+        }
+        return size;
     }
 
     /** Of a method that calls itself the calls to itself do not count; rings of several methods are not allowed here. */
@@ -133,6 +180,63 @@ final class RulesTest {
                 }
             }
             return null;
+        }
+
+        /** Numbers, booleans, classes of the file, and arrays of these: of numbers with two dimensions at the most. */
+        private static boolean isAllowed(TypeMirror type) {
+            if (type instanceof ArrayType row) {
+                TypeMirror of = row.getComponentType();
+                return of instanceof ArrayType inner ? isNumber(inner.getComponentType()) : isAllowed(of);
+            }
+            boolean own = type instanceof DeclaredType known && known.toString().startsWith("VersionWorks");
+            return isNumber(type) || type.getKind() == TypeKind.BOOLEAN || type.getKind() == TypeKind.VOID || own;
+        }
+
+        private static boolean isNumber(TypeMirror type) {
+            return type.getKind() == TypeKind.INT || type.getKind() == TypeKind.LONG;
+        }
+
+        @Override
+        public Void visitVariable(VariableTree tree, Void none) {
+            Element element = trees.getElement(getCurrentPath());
+            Due.yes("line " + line(tree) + ": a type of the language", isAllowed(element.asType()));
+            boolean still = element.getModifiers().contains(Modifier.STATIC);
+            Due.yes("line " + line(tree) + ": what is static is a constant",
+                    !still || element instanceof VariableElement one && one.getConstantValue() != null);
+            return super.visitVariable(tree, none);
+        }
+
+        @Override
+        public Void visitLiteral(LiteralTree tree, Void none) {
+            boolean text = tree.getValue() instanceof String;
+            Due.yes("line " + line(tree) + ": no text", !text);
+            Due.yes("line " + line(tree) + ": a sign from 1 to 127",
+                    !(tree.getValue() instanceof Character c) || c >= 1 && c <= 127);
+            return super.visitLiteral(tree, none);
+        }
+
+        private void bounded(ExpressionTree condition, Tree loop) {
+            Due.yes("line " + line(loop) + ": the loop has an end", condition != null
+                    && !(condition instanceof ParenthesizedTree in && in.getExpression() instanceof LiteralTree)
+                    && !(condition instanceof LiteralTree));
+        }
+
+        @Override
+        public Void visitForLoop(ForLoopTree tree, Void none) {
+            bounded(tree.getCondition(), tree);
+            return super.visitForLoop(tree, none);
+        }
+
+        @Override
+        public Void visitWhileLoop(WhileLoopTree tree, Void none) {
+            bounded(tree.getCondition(), tree);
+            return super.visitWhileLoop(tree, none);
+        }
+
+        @Override
+        public Void visitDoWhileLoop(DoWhileLoopTree tree, Void none) {
+            bounded(tree.getCondition(), tree);
+            return super.visitDoWhileLoop(tree, none);
         }
 
         @Override
