@@ -10,6 +10,7 @@ final class CrissRuns {
         for (int seed = from; seed <= to; seed++) {
             run(seed);
             layers(seed);
+            toggles(seed);
         }
         if (args.length > 2) {
             System.out.println(Pair.SEEN);
@@ -109,6 +110,32 @@ final class CrissRuns {
             ask(pair, random, tips, 2);
         }
         pair.compareState();
+    }
+
+    /** Commits of two snapshots alone, which go to and fro and merge: trees do not tell which commit is meant. */
+    private static void toggles(int seed) {
+        Random random = new Random(seed);
+        Pair pair = new Pair("toggles seed " + seed);
+        List<Integer> tips = new ArrayList<>();
+        for (int step = 0; step < 40; step++) {
+            int length = tips.size();
+            if (length > 2) {
+                pair.call("reset", 0, tips.get(length - 1 - random.nextInt(3)), 2);
+            }
+            if (length > 3 && random.nextInt(3) > 0) {
+                int other = tips.get(length - 1 - random.nextInt(Math.min(length, 5)));
+                pair.call("merge", 0, other, 1, 1 + random.nextInt(2), 1, step);
+            } else {
+                boolean one = pair.model.fileLines(0, 0) == 1 && pair.model.fileLine(0, 0, 0) == 1;
+                pair.call("write", 0, 0, one ? 2L : 1L);
+                pair.call("addAll", 0);
+                pair.call("commit", 0, 1, step);
+            }
+            if (!tips.contains(pair.model.head(0))) {
+                tips.add(pair.model.head(0));
+            }
+        }
+        bisect(pair, random, tips);
     }
 
     private static void change(Pair pair, Random random, int paths, int most) {

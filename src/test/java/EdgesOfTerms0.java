@@ -18,6 +18,7 @@ final class EdgesOfTerms0 {
         linesAndPaths();
         kindsOfObjects();
         holdTheSame();
+        holdNearlyTheSame();
         numbersAndStamps();
         snapshots();
         numbersGivenEver();
@@ -459,6 +460,40 @@ final class EdgesOfTerms0 {
             z.merge(0, Scenes.TOP, 1, 2, 1, 1);
             return z.rootTree(0, z.head(0)) == z.rootTree(0, merged) ? z.head(0) : NONE;
         });
+    }
+
+    /** What differs in two places, by 1 in the one and by 31 in the other: sums that stand for it could be the same. */
+    private static void holdNearlyTheSame() {
+        Edge.says("part 0", "Two objects hold the same, if they are of the same kind, their lines, or their author, date and "
+                + "message, are the same, and so are their parts, one by one in their order");
+        VersionWorks x = new VersionWorks();
+        for (int line = 1; line <= 40; line++) {
+            x.write(0, 5, 0);
+            x.insertLine(0, 5, 0, line);
+            Due.same("a blob of the line " + line, line - 1, x.add(0, 5));
+        }
+        x.write(0, 0, 21);
+        int two = x.add(0, 0);
+        x.write(0, 0, 1);
+        x.insertLine(0, 0, 1, 32);
+        Due.is("1 and 32 are not 2 and 1", two + 1, () -> x.add(0, 0));
+        x.write(0, 0, 2);
+        x.write(0, 1, 1);
+        x.addAll(0);
+        int one = x.commit(0, 1, 5);
+        x.write(0, 0, 1);
+        x.write(0, 1, 0);
+        x.insertLine(0, 1, 0, 32);
+        x.addAll(0);
+        int other = x.amend(0, 1, 5);
+        Due.same("blobs 0 and 31 are not blobs 1 and 0: a tree, a root, a commit", one + 3, other);
+        Due.is("blob 0", 0, () -> x.blobAt(0, other, 0));
+        Due.is("blob 31", 31, () -> x.blobAt(0, other, 1));
+        int tagged = x.annotate(0, 0, other, 7);
+        x.tick(0, 31);
+        Due.is("message 4 at 31 is not message 5 at 0", tagged + 1, () -> x.amend(0, 1, 4));
+        Due.is("nor is a tag object", tagged + 2, () -> x.annotate(0, 1, other, 6));
+        Due.is("the message", 6, () -> x.message(0, tagged + 2));
     }
 
     private static void numbersAndStamps() {

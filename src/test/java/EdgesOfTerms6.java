@@ -10,6 +10,7 @@ final class EdgesOfTerms6 {
         likenesses();
         renames();
         renamesOneByOne();
+        renamesOfEachPath();
         origins();
         originsOverRenames();
         originsOfMerges();
@@ -273,6 +274,27 @@ final class EdgesOfTerms6 {
     private static String origin(VersionWorks x, int commit, int path, int place, int limit) {
         return x.blame(0, commit, path, place, limit) + " " + x.blamePath(0, commit, path, place, limit) + " "
                 + x.blamePlace(0, commit, path, place, limit);
+    }
+
+    private static void renamesOfEachPath() {
+        Edge.says("part 6", "a path is lost, if the snapshot of the first has a blob of it and that of the second has none; it is "
+                + "new, if it is the other way round");
+        for (int lost = 0; lost < 16; lost++) {
+            for (int path = 0; path < 16; path++) {
+                int other = path;
+                VersionWorks x = new VersionWorks();
+                x.write(0, lost, 12345);
+                int first = commit(x, 1);
+                x.removeFile(0, lost);
+                x.write(0, path, 12346);
+                int second = commit(x, 2);
+                int due = path == lost ? NONE : lost;
+                Due.is("from " + lost + " to " + path, due, () -> x.renamedFrom(0, first, second, other, 80));
+                Due.is("not from " + lost + " to " + path, NONE, () -> x.renamedFrom(0, first, second, other, 81));
+                int origin = path == lost ? path : lost;
+                Due.is("the origin at " + path, origin, () -> x.blamePath(0, second, other, 0, 80));
+            }
+        }
     }
 
     private static void origins() {

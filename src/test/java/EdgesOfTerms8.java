@@ -11,6 +11,7 @@ final class EdgesOfTerms8 {
         roundsWithCommonOnes();
         packs();
         orders();
+        orderOfNumberNone();
         limits();
         tellings();
         fetchedBranches();
@@ -166,6 +167,31 @@ final class EdgesOfTerms8 {
                 Due.is("what came", k < most ? k : NONE, () -> y.twin(0, sender));
             }
         }
+    }
+
+    /** A root tree without trees of folders can have the number 0: it is sent as any other one. */
+    private static void orderOfNumberNone() {
+        Edge.says("part 0", "a root tree has trees of folders, by the numbers of the folders, and may have none at all");
+        VersionWorks x = new VersionWorks();
+        x.write(0, 0, 1);
+        x.addAll(0);
+        x.commit(0, 1, 1);
+        x.removeFile(0, 0);
+        x.addAll(0);
+        x.amend(0, 1, 2);
+        Due.is("the tree and the commit", 1, () -> x.fetch(1, 240));
+        Due.is("two objects", 2, () -> x.objects(1));
+        Due.is("the tree is 0", 0, () -> x.rootTree(1, 1));
+        x.startBranch(0, 1);
+        x.deleteBranch(0, 0, true);
+        x.expireReflog(0, 0);
+        Due.is("nothing is reached there any more", 6, () -> x.collect(0, 0));
+        x.reset(1, 1, 2);
+        Due.is("both would be sent back", 2, () -> x.wouldSend(1, 1));
+        Due.is("the tree gets 6, the commit 7", 7, () -> x.push(1, 0, 0, 0, 240));
+        told(x, "both", 0, 0, 2, 0);
+        Due.is("the tree first", 6, () -> x.rootTree(0, 7));
+        Due.is("both repositories are sound", 2, () -> Edge.yes(x.isSound(0, 0)) + Edge.yes(x.isSound(1, 0)));
     }
 
     private static void limits() {

@@ -219,6 +219,17 @@ final class SoundTest {
         }
     }
 
+    /** An element of a field inside, as it is. */
+    private static long inside(Object on, String names, int place) throws ReflectiveOperationException {
+        Object at = on;
+        for (String name : names.split(" ")) {
+            Field field = at.getClass().getDeclaredField(name);
+            field.setAccessible(true);
+            at = field.get(at);
+        }
+        return Array.getLong(at, place);
+    }
+
     /** In a scene something is changed by force: the part and the whole are not sound; the other repository is. */
     private static void unsound(String what, int part, Edge.Scene scene, Object... changes)
             throws ReflectiveOperationException {
@@ -297,6 +308,20 @@ final class SoundTest {
         }
         unsound("one stage alone", 3, stopped, "desk stages", 0, NONE, "desk stages", 1, NONE);
         unsound("one stage alone", 3, stopped, "desk stages", 46, NONE, "desk stages", 47, NONE);
+        unsound("one stage alone, beside a conflict with three", 3, () -> {
+            VersionWorks x = new VersionWorks();
+            for (int message = 1; message <= 3; message++) {
+                x.write(0, 0, message);
+                x.write(0, 1, message);
+                x.addAll(0);
+                x.commit(0, 1, message);
+                x.branch(0, message, x.head(0));
+                x.detach(0, x.branchAt(0, 1));
+            }
+            x.detach(0, x.branchAt(0, 2));
+            x.merge(0, x.branchAt(0, 3), 0, 0, 1, 1);
+            return x;
+        }, "desk stages", 4, NONE, "desk stages", 5, NONE);
         VersionWorks x = stopped.make();
         force(x, "first desk stages", 1, NONE);
         Due.is("two stages", 1, () -> Edge.yes(x.isSound(0, 3)));
@@ -310,6 +335,9 @@ final class SoundTest {
             unsound("a branch", 4, ends, "state branches", 5, wrong);
             unsound("a track", 4, ends, "state tracks", 5, wrong);
             unsound("a tag", 4, ends, "state tags", 5, wrong);
+            unsound("the first branch", 4, ends, "state branches", 0, wrong);
+            unsound("the first track", 4, ends, "state tracks", 0, wrong);
+            unsound("the first tag", 4, ends, "state tags", 0, wrong);
             unsound("a detached HEAD", 4, ends, "state headOn", 0, NONE, "state headAt", 0, wrong);
             unsound("an entry of the reflog", 4, ends, "state log", 12, wrong);
         }
@@ -330,19 +358,50 @@ final class SoundTest {
         Due.is("an act 8", 1, () -> Edge.yes(x.isSound(0, 4)));
     }
 
-    private static void history() {
+    private static VersionWorks crossed() {
+        VersionWorks x = Scenes.ends();
+        x.merge(0, Scenes.SIDE, 1, 1, 0, 1);
+        x.detach(0, Scenes.SIDE);
+        x.merge(0, Scenes.TOP, 1, 1, 0, 2);
+        x.branch(0, 1, x.head(0));
+        return x;
+    }
+
+    private static void history() throws ReflectiveOperationException {
         Edge.says("part 5", "The part is sound, if the generation of each commit that is present is above those of its parents");
-        Due.is("sound, of a criss-cross", 1, () -> {
-            VersionWorks x = Scenes.ends();
-            x.merge(0, Scenes.SIDE, 1, 1, 0, 1);
-            x.detach(0, Scenes.SIDE);
-            x.merge(0, Scenes.TOP, 1, 1, 0, 2);
-            x.branch(0, 1, x.head(0));
-            return x.bases(0, x.branchAt(0, 1), x.branchAt(0, 2)) == 2 ? Edge.yes(x.isSound(0, 5)) : 0;
+        Due.is("sound, of a criss-cross", 2, () -> {
+            VersionWorks x = crossed();
+            return Edge.yes(x.isSound(0, 5)) * x.bases(0, x.branchAt(0, 1), x.branchAt(0, 2));
         });
+        unsound("a commit that is its own parent", 5, Scenes::ends, "store parts", 4 * Scenes.TOP + 1, Scenes.TOP);
+        int merge = crossed().head(0);
+        unsound("a commit that is its own second parent", 5, SoundTest::crossed, "store parts", 4 * merge + 2, merge);
+        for (int[] pair : new int[][] {{Scenes.TOP, Scenes.SIDE}, {Scenes.SIDE, Scenes.TOP}}) {
+            int word = 4 * pair[0] + (pair[1] >> 6);
+            long reach = inside(crossed(), "first store reach", word) | 1L << (pair[1] & 63);
+            unsound("a merge base that descends from another one", 5, SoundTest::crossed, "store reach", word, reach);
+        }
+        for (int path : new int[] {0, 1, 15}) {
+            Edge.Scene grown = () -> {
+                VersionWorks x = new VersionWorks();
+                Scenes.commit(x, 0, path, 7, 1);
+                Scenes.commit(x, 0, (path + 1) % 16, 0, 2);
+                return x;
+            };
+            int first = grown.make().parent(0, grown.make().head(0), 0);
+            int word = 4 * grown.make().head(0) + (first >> 6);
+            long reach = inside(grown.make(), "first store reach", word) & ~(1L << (first & 63));
+            unsound("an origin that is in no ancestor", 6, grown, "store reach", word, reach);
+        }
         Edge.says("part 8", "The part is sound, if each two objects of the two repositories whose numbers twin() tells have parts whose numbers "
-                + "twin() tells, one by one");
+                + "twin() tells, one by one, and twin() back tells the object itself");
         Due.is("twins are sound", 1, () -> Edge.yes(Scenes.ends().isSound(0, 8)));
+        int one = Scenes.ends().blobAt(0, Scenes.TOP, 7);
+        int other = Scenes.ends().blobAt(0, Scenes.SIDE, 8);
+        Due.yes("it has a twin", Scenes.ends().twin(0, other) != NONE);
+        long mark = inside(Scenes.ends(), "first store marks", other);
+        unsound("two objects with one twin", 8, Scenes::ends, "store lengths", one, 1, "store lines", 60 * one, 5,
+                "store marks", one, mark);
     }
 
     private static void merges() throws ReflectiveOperationException {
@@ -405,6 +464,9 @@ final class SoundTest {
         int stash = x.stashAt(0, 0);
         int index = x.parent(0, stash, 1);
         unsound("the second has another parent", 11, ends, "store parts", 4 * index + 1, Scenes.SIDE);
+        force(x, "first store parts", 4 * stash + 1, Scenes.TREE);
+        force(x, "first store parts", 4 * index + 1, Scenes.TREE);
+        Due.is("both have a tree as their parent", 0, () -> Edge.yes(x.isSound(0, 11)));
         unsound("the second has no parent", 11, ends, "store parts", 4 * index + 1, NONE);
         unsound("the second has two", 11, ends, "store parts", 4 * index + 2, Scenes.SIDE);
         unsound("the first is the second", 11, ends, "store parts", 4 * stash + 2, Scenes.TOP);
