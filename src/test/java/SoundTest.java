@@ -367,6 +367,29 @@ final class SoundTest {
         return x;
     }
 
+    /** The two merges are where the last two tracks are, and no branch is at either one, or at what they merge. */
+    private static VersionWorks crossedTracks() {
+        VersionWorks x = crossed();
+        x.push(0, 1, 4, 1, 240);
+        x.push(0, 2, 5, 1, 240);
+        x.moveBranch(0, 1, Scenes.ROOT);
+        x.moveBranch(0, 2, Scenes.ROOT);
+        x.moveBranch(0, 3, Scenes.ROOT);
+        x.moveBranch(0, 5, Scenes.ROOT);
+        return x;
+    }
+
+    /** The two merges are where the branches 0 and 1 are, and no branch or track is at what they merge. */
+    private static VersionWorks crossedFirst() {
+        VersionWorks x = crossed();
+        x.moveBranch(0, 0, x.branchAt(0, 2));
+        for (int branch : new int[] {2, 3, 5}) {
+            x.moveBranch(0, branch, Scenes.ROOT);
+            x.push(0, branch, branch, 1, 240);
+        }
+        return x;
+    }
+
     private static void history() throws ReflectiveOperationException {
         Edge.says("part 5", "The part is sound, if the generation of each commit that is present is above those of its parents");
         Due.is("sound, of a criss-cross", 2, () -> {
@@ -380,6 +403,8 @@ final class SoundTest {
             int word = 4 * pair[0] + (pair[1] >> 6);
             long reach = inside(crossed(), "first store reach", word) | 1L << (pair[1] & 63);
             unsound("a merge base that descends from another one", 5, SoundTest::crossed, "store reach", word, reach);
+            unsound("a merge base of the first branch", 5, SoundTest::crossedFirst, "store reach", word, reach);
+            unsound("a merge base of tracks", 5, SoundTest::crossedTracks, "store reach", word, reach);
         }
         for (int path : new int[] {0, 1, 15}) {
             Edge.Scene grown = () -> {
